@@ -349,7 +349,7 @@ public final class ColumnGrammar {
             case 1:
                 return tree.howManyAside(tokens);
             case 2:
-                return doubleBeginnings();
+                return linesThatBeginTwo();
             default:
                 return NONE;
         }
@@ -547,7 +547,7 @@ public final class ColumnGrammar {
         return NONE;
     }
 
-    private int doubleBeginnings() {
+    private int linesThatBeginTwo() {
         int found = 0;
         for (int token = 0; token < tokens.count; token++) {
             if (tokens.beginsLine(token) && tree.howManyWith(FROM, token) >= 2) {
