@@ -161,7 +161,7 @@ public final class ColumnGrammar {
         chart.readOnce();
         int found = 0;
         for (int sign = LEAST_SIGN; sign <= GREATEST_SIGN; sign++) {
-            if (rules.hasSign(sign) && outlook.columnsBehind(0, sign, rule, ALL) != 0) {
+            if (rules.hasSign(sign) && outlook.columnsBehind(0, sign, rule) != 0) {
                 if (found == i) {
                     return sign;
                 }
@@ -249,7 +249,7 @@ public final class ColumnGrammar {
         if (token >= tokens.count) {
             return NONE;
         }
-        long columns = outlook.columnsBehind(token, tokens.signs[token], START, ALL);
+        long columns = outlook.columnsBehind(token, tokens.signs[token], START);
         return what == 0 ? nearest(columns, tokens.columns[token]) : Long.bitCount(columns);
     }
 
@@ -258,7 +258,7 @@ public final class ColumnGrammar {
             return 0;
         }
         chart.readOnce();
-        return outlook.columnsBehind(m, sign, START, ALL);
+        return outlook.columnsBehind(m, sign, START);
     }
 
     public int room(int m) {
@@ -266,7 +266,7 @@ public final class ColumnGrammar {
             return NONE;
         }
         chart.readOnce();
-        return Long.bitCount(outlook.columnsBehind(m, ANY, START, ALL));
+        return Long.bitCount(outlook.columnsBehind(m, ANY, START));
     }
 
     // ---- the tree
@@ -520,8 +520,7 @@ public final class ColumnGrammar {
     }
 
     private boolean goesOnWith(int token) {
-        long here = 1L << tokens.columns[token];
-        return outlook.columnsBehind(token, tokens.signs[token], START, here) != 0;
+        return hasColumn(outlook.columnsBehind(token, tokens.signs[token], START), tokens.columns[token]);
     }
 
     private int blamedToken() {
@@ -590,19 +589,16 @@ public final class ColumnGrammar {
         return bond == '>' ? upTo >>> 1 : upTo;
     }
 
-    /** The columns at which a part fits a whole. */
-    private static long partsOf(int bond, int whole) {
-        long here = 1L << whole;
-        switch (bond) {
-            case '=':
-                return here;
-            case '>':
-                return ALL & ~(here + here - 1);
-            case '*':
-                return ALL;
-            default:
-                return ALL & ~(here - 1);
+    /** The columns at which a part fits a whole that stands at one of these. */
+    private static long partsOf(int bond, long columns) {
+        if (columns == 0 || bond == '=') {
+            return columns;
         }
+        if (bond == '*') {
+            return ALL;
+        }
+        long least = columns & -columns;
+        return ALL & (bond == '>' ? -(least + least) : -least);
     }
 
     /** The RULES of a GRAMMAR, none of them while there is no GRAMMAR; ALTS and ITEMS stand in rows of fixed width. */
@@ -1204,80 +1200,71 @@ public final class ColumnGrammar {
     /** At which columns a sign can come behind the first TOKENS, so that they go on with it. */
     private static final class Outlook {
         private final Chart chart;
-        // Of each RULE, i and column of the new TOKEN: the columns of its NODES from i on over that TOKEN and any others.
-        private final long[] begun = new long[MOST_RULES * PLACES * COLUMNS];
+        // Of each RULE and i: the columns of NODES from i on that are not over yet at the new sign.
+        private final long[] open = new long[MOST_RULES * PLACES];
         private int last;
         private int sign;
+        private long found;
 
         Outlook(Chart chart) {
             this.chart = chart;
         }
 
-        long columnsBehind(int m, int newSign, int rule, long wanted) {
+        long columnsBehind(int m, int newSign, int rule) {
             last = m;
             sign = newSign;
-            for (int i = m; i >= 0; i--) {
+            found = 0;
+            Arrays.fill(open, 0L);
+            open[rule * PLACES] = ALL;
+            for (int i = 0; i <= m; i++) {
                 chart.fillRows(i, m);
-                for (int column = 0; column < COLUMNS; column++) {
-                    if (hasColumn(wanted, column)) {
-                        settle(i, column);
-                    }
-                }
-            }
-            long found = 0;
-            for (int column = 0; column < COLUMNS; column++) {
-                if (hasColumn(wanted, column) && begun[at(rule, 0, column)] != 0) {
-                    found |= 1L << column;
-                }
+                openAt(i);
             }
             return found;
         }
 
-        private static int at(int rule, int i, int column) {
-            return (rule * PLACES + i) * COLUMNS + column;
-        }
-
         // A RULE may begin with itself here, as what is behind it need not be there yet.
-        private void settle(int i, int column) {
-            int count = chart.rules.count;
-            for (int rule = 0; rule < count; rule++) {
-                begun[at(rule, i, column)] = 0;
-            }
+        private void openAt(int i) {
             boolean more = true;
             for (int pass = 0; more && pass < MOST_PASSES; pass++) {
                 more = false;
-                for (int rule = count - 1; rule >= 0; rule--) {
-                    long columns = beginRule(rule, i, column);
-                    more = more || columns != begun[at(rule, i, column)];
-                    begun[at(rule, i, column)] = columns;
+                for (int rule = 0; rule < chart.rules.count; rule++) {
+                    if (open[rule * PLACES + i] != 0 && openItems(rule, i)) {
+                        more = true;
+                    }
                 }
             }
         }
 
-        private long beginRule(int rule, int i, int column) {
+        /** Whether there is more open than there was. */
+        private boolean openItems(int rule, int i) {
             Rules rules = chart.rules;
-            long columns = 0;
+            boolean more = false;
             for (int alt = rule * MOST_ALTS; alt < rule * MOST_ALTS + rules.alts[rule]; alt++) {
                 for (int k = 0; k < rules.items[alt]; k++) {
                     int slot = alt * MOST_ITEMS + k;
-                    for (int p = i; p <= last; p++) {
-                        long wholes = chart.aheadOf(slot, i, p) & rules.freeBehind[slot];
-                        if (wholes != 0) {
-                            columns |= wholes & wholesOf(rules.bonds[slot], beginItem(slot, p, column));
+                    long wholes = open[rule * PLACES + i] & rules.freeBehind[slot];
+                    for (int p = i; p <= last && wholes != 0; p++) {
+                        long parts = partsOf(rules.bonds[slot], wholes & chart.aheadOf(slot, i, p));
+                        if (openItem(slot, p, parts)) {
+                            more = true;
                         }
                     }
                 }
             }
-            return columns;
+            return more;
         }
 
-        private long beginItem(int slot, int p, int column) {
+        private boolean openItem(int slot, int p, long parts) {
             int target = chart.rules.targets[slot];
-            if (target != NONE) {
-                return begun[at(target, p, column)];
+            if (target == NONE) {
+                boolean isIt = sign == ANY || sign == chart.rules.parts[slot];
+                found |= p == last && isIt ? parts : 0;
+                return false;
             }
-            boolean isIt = sign == ANY || sign == chart.rules.parts[slot];
-            return p == last && isIt ? 1L << column : 0;
+            long before = open[target * PLACES + p];
+            open[target * PLACES + p] = before | parts;
+            return (parts & ~before) != 0;
         }
     }
 
@@ -1370,7 +1357,7 @@ public final class ColumnGrammar {
         }
 
         private long fitting(int k, int slot, int p, int q) {
-            return chart.columnsOfItem(slot, p, q) & partsOf(chart.rules.bonds[slot], field(k, COLUMN));
+            return chart.columnsOfItem(slot, p, q) & partsOf(chart.rules.bonds[slot], 1L << field(k, COLUMN));
         }
 
         // The last one waits first, so that the first one is taken first.
@@ -1515,7 +1502,7 @@ public final class ColumnGrammar {
 
         private boolean growItem(int slot, int whole, int above) {
             int target = rules.targets[slot];
-            long columns = partsOf(rules.bonds[slot], whole);
+            long columns = partsOf(rules.bonds[slot], 1L << whole);
             if (target != NONE) {
                 columns &= rules.free[target];
             }

@@ -363,6 +363,10 @@ public final class PromisesTest {
         Due.text(x, "\n\nx\n\nx{");
         D.due("the end", x.blame(0), 3);
         D.due("its LINE", x.blame(1), 4);
+        Due.text(x, "\n\nx\n\nx\n\nx\n\n x");
+        Due.text(x, "\nx{");
+        D.due("the end", x.blame(0), 2);
+        D.due("its LINE", x.blame(1), 1);
         Due.text(x, "");
         D.due("fits", x.fits(), 0);
         D.due("the end", x.blame(0), 0);
@@ -641,6 +645,8 @@ public final class PromisesTest {
         Due.text(x, "xxxxx\nxxxxx\nxxxxx\nxxxxx");
         D.due("there are 20", x.put(0, 9, 'x'), -3);
         D.due("there are 20, a wrong number", x.put(0, 40, 'x'), -1);
+        x.take(19);
+        D.due("where one was taken", x.put(3, 4, 'x'), 19);
     }
 
     private static void takesAndChanges() {
@@ -689,6 +695,11 @@ public final class PromisesTest {
         }
         D.due("part(2, 0)", x.part(2, 0), 2);
         D.due("token(3, 1)", x.token(3, 1), 4);
+        Due.text(x, "a b  c");
+        D.due("in the last LINE: part(1, 37)", x.part(1, 37), -3);
+        D.due("in the last LINE: part(1, 36)", x.part(1, 36), 1);
+        D.due("token(2, 2)", x.token(2, 2), 39);
+        D.due("token(2, 1)", x.token(2, 1), 1);
     }
 
     private static void grows() {
@@ -725,10 +736,33 @@ public final class PromisesTest {
         Due.grammar(x, "A:B;B:");
         D.due("no TOKENS", x.grow(5), 0);
         D.due("no TOKENS", x.count(1), 0);
+        growsDeep(x);
         for (int seed = 0; seed < 20; seed++) {
             D.due("what is grown fits", fitsGrown(BLOCKS, seed), 1);
             D.due("what is grown fits", fitsGrown("S:=A>A=A;A:*'x/'y/'xA", seed), 1);
         }
+    }
+
+    /** A NODE of C with the n-th x has 3 n above it: 30 with the tenth. */
+    private static void growsDeep(ColumnGrammar x) {
+        Due.grammar(x, "S:A;A:B;B:C;C:'xA/'xA/'xA/'x");
+        int tens = 0;
+        for (int seed = 0; seed < 3000; seed++) {
+            // The COLUMN of S; ALT and ITEM of S.
+            long s = step(step(step(seed)));
+            int signs = 0;
+            boolean more = true;
+            while (more) {
+                // ALT and ITEM of A and of B; the ALT of C.
+                s = step(step(step(step(step(s)))));
+                more = s % 4 < 3;
+                s = step(more ? step(s) : s);
+                signs++;
+            }
+            tens += signs == 10 ? 1 : 0;
+            D.due("grow(" + seed + ") by " + signs, x.grow(seed), signs > 10 ? -3 : signs);
+        }
+        D.due("some have just 30 above", tens > 0, true);
     }
 
     private static long step(long s) {
@@ -866,8 +900,12 @@ public final class PromisesTest {
         D.due("rule(0, 0)", x.rule(0, 0), 'B');
         D.due("count(1)", x.count(1), 4);
         D.due("nothing can be undone", x.undo(), -3);
+        D.due("fits", x.fits(), 1);
         x.take(0);
+        D.due("fits", x.fits(), 0);
         D.due("what is kept stays", x.again(0) && x.count(1) == 4, true);
+        D.due("nothing can be undone", x.count(5), 0);
+        D.due("fits again", x.fits(), 1);
         D.due("again(2)", x.again(2), false);
         D.due("alike(2)", x.alike(2), NONE);
         D.due("alike(-1)", x.alike(-1), NONE);
@@ -877,6 +915,8 @@ public final class PromisesTest {
         D.due("what is kept does not fit", x.alike(0), NONE);
         D.due("again(1)", x.again(1), true);
         D.due("no GRAMMAR is brought back", x.fits(), NONE);
+        D.due("no tree", x.nodes(), NONE);
+        D.due("no RULE", ruleOf(x, 0, 0), -777);
         D.due("no TOKENS", x.count(1), 0);
     }
 

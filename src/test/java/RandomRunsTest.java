@@ -10,7 +10,7 @@ public final class RandomRunsTest {
         "A:/'xA;B:A=A'y", "S:=E/=ES;E:'a/'(*E')/'a>S", "A:B>C=D*E;B:/'x;C:'y/;D:'x;E:/'y'x", "S:AA;A:/'x/'x'x",
         "A:'xA'x/'y", "S:>S'x/'y", "E:E'+T/T;T:'a/'(*E')", "S:*A*B;A:>'x/;B:='y/>S", "A:BBB;B:CCC;C:'x/",
         "A:'x>A", "A:'x>A/B;B:=B'y/'z", "S:=I=S/;I:'i'::>S/'p", "A:>B;B:>C;C:>D;D:", "S:'a'b'c'd'e/S>'a",
-        "D:=K=D/=K;K:'k'='v/'k>D", "S:=A>A=A;A:'x/'y/'xA", "A:*A'x/'x", "S:L=S/L;L:'[*L']/'x/'[']",
+        "D:=K=D/=K;K:'k'='v/'k>D", "S:A;A:B;B:C;C:'xA/'xA/'x'yA/'x", "S:=A>A=A;A:'x/'y/'xA", "A:*A'x/'x", "S:L=S/L;L:'[*L']/'x/'[']",
     };
 
     private final Random random;
@@ -213,7 +213,7 @@ public final class RandomRunsTest {
     private void change() {
         int n = m.tokens.size();
         int lines = n == 0 ? 0 : m.tokens.get(n - 1).line();
-        switch (below(12)) {
+        switch (below(14)) {
             case 0, 1, 2: {
                 int line = near(lines);
                 int by = below(10) == 0 ? below(90) - 45 : below(9) - 4;
