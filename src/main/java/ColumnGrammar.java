@@ -59,7 +59,7 @@ public final class ColumnGrammar {
     private final Outlook outlook = new Outlook(chart);
     private final Grower grower = new Grower(rules);
     private final History history = new History();
-    private final Letters line = new Letters();
+    private final Letters theLine = new Letters();
     private final Kept[] kept = {new Kept(), new Kept()};
     private final Chart otherChart = new Chart(rules, before);
     private final Tree otherTree = new Tree(otherChart);
@@ -175,8 +175,8 @@ public final class ColumnGrammar {
         if (rules.count == 0) {
             return NONE;
         }
-        line.writeRules(rules);
-        return line.length;
+        theLine.writeRules(rules);
+        return theLine.length;
     }
 
     public long free(int rule) {
@@ -417,12 +417,12 @@ public final class ColumnGrammar {
     }
 
     public int print() {
-        line.printTokens(tokens);
-        return line.length;
+        theLine.printTokens(tokens);
+        return theLine.length;
     }
 
     public int letter(int i) {
-        return i < 0 || i >= line.length ? NONE : line.letters[i];
+        return i < 0 || i >= theLine.length ? NONE : theLine.letters[i];
     }
 
     public boolean keep(int k) {
@@ -467,7 +467,7 @@ public final class ColumnGrammar {
             case 3:
                 return textLength;
             case 4:
-                return line.length;
+                return theLine.length;
             case 5:
                 return history.size;
             case 6:
@@ -572,7 +572,7 @@ public final class ColumnGrammar {
         return Long.bitCount((columns & -columns) - 1);
     }
 
-    /** The columns of wholes to which a part fits that can stand at each of these. */
+    /** The columns of wholes to which a part fits that stands at one of these. */
     private static long wholesOf(int bond, long columns) {
         if (columns == 0 || bond == '=') {
             return columns;

@@ -129,6 +129,7 @@ public final class PromisesTest {
         fault("A:;B:;C:;D:;E:;F:;G:;H:;", 24);
         fault("A:;B:;C:;D:;E:;F:;G:;H:; I:", 25);
         fault("A:;B:;C:;D:;E:;F:;G:;H:; ?", 25);
+        fault("A:;B:;C:;D:;E:;F:;G:;H:////", 26);
     }
 
     private static void grammarNamesAndRounds() {
@@ -419,6 +420,15 @@ public final class PromisesTest {
         D.due("a beginning by itself", Due.made("E:E'+'a/'a", "a + a +").goesOn(4), 1);
         D.due("more than 20", Due.made("A:'xA/", "xxxxx\nxxxxx\nxxxxx\nxxxxx").room(20), 40);
         D.due("nothing that ends", Due.made("A:'xA", "").goesOn(0), 0);
+        D.due("by RULES in any order", Due.made("A:C;B:'x;C:B", "").next(0, 'x'), ALL);
+        x = Due.made("A:'xA/", "x x x x");
+        x.take(3);
+        D.due("next(3, x)", x.next(3, 'x'), ALL);
+        D.due("beyond the TOKENS", x.next(4, 'x'), 0);
+        D.due("far beyond", x.next(Integer.MAX_VALUE, 'x'), 0);
+        D.due("a sign 0", x.next(0, 0), 0);
+        D.due("room beyond", x.room(4), NONE);
+        D.due("goesOn beyond", x.goesOn(Integer.MAX_VALUE), NONE);
     }
 
     private static void hints() {
@@ -618,6 +628,9 @@ public final class PromisesTest {
         D.due("move(2, -2)", x.move(2, -2), 1);
         D.due("move(2, 39)", x.move(2, 39), 1);
         D.due("move(2, -39)", x.move(2, -39), 1);
+        Due.text(x, "xxxxx\nxxxxx\nxxxxx\nxxxxx");
+        D.due("of 20: move(3, 35)", x.move(3, 35), 5);
+        D.due("of 20: part(19, 0)", x.part(19, 0), 4);
     }
 
     private static void puts() {
@@ -915,6 +928,9 @@ public final class PromisesTest {
         D.due("what is kept does not fit", x.alike(0), NONE);
         D.due("again(1)", x.again(1), true);
         D.due("no GRAMMAR is brought back", x.fits(), NONE);
+        Due.grammar(x, "A:");
+        D.due("nodes()", x.nodes(), 0);
+        x.again(1);
         D.due("no tree", x.nodes(), NONE);
         D.due("no RULE", ruleOf(x, 0, 0), -777);
         D.due("no TOKENS", x.count(1), 0);
