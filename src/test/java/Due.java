@@ -59,7 +59,8 @@ final class Due {
     /** THE LINE as it stands. */
     static String line(ColumnGrammar x) {
         StringBuilder b = new StringBuilder();
-        for (int i = 0; i < x.count(4); i++) {
+        int letters = x.count(4);
+        for (int i = 0; i < letters; i++) {
             b.append((char) x.letter(i));
         }
         return b.toString();

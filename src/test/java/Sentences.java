@@ -155,7 +155,7 @@ final class Sentences {
 
     /** 20 TOKENS, the greatest in COLUMN 39, that FIT; one ACT. */
     static ColumnGrammar full() {
-        ColumnGrammar x = Due.made("A:'xA/'x", FULL);
+        ColumnGrammar x = Due.made("A:BBBB;B:'x'x'x'x'x", FULL);
         x.move(3, 35);
         x.keep(1);
         return x;

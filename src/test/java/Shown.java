@@ -1,4 +1,7 @@
-/** What calls show of an object, as one text: two objects of which all of it is the same can't be told apart by them. */
+/**
+ * What calls show of an object, as one text: two objects of which all of it is the same can't be told apart by them.
+ * No count is asked for twice, so that the 512 calls of an object are enough.
+ */
 final class Shown {
     private Shown() {
     }
@@ -36,21 +39,26 @@ final class Shown {
     /** Each as sign, LINE, COLUMN. */
     static String tokens(ColumnGrammar x) {
         StringBuilder b = new StringBuilder();
-        for (int k = 0; k < x.count(1); k++) {
+        int tokens = x.count(1);
+        for (int k = 0; k < tokens; k++) {
             b.append(k > 0 ? " " : "").append((char) x.token(k, 0)).append(x.token(k, 1)).append(',').append(x.token(k, 2));
         }
         return b.toString();
     }
 
     private static void rules(StringBuilder b, ColumnGrammar x) {
-        for (int rule = 0; rule < x.count(0); rule++) {
+        int rules = x.count(0);
+        for (int rule = 0; rule < rules; rule++) {
             b.append("RULE ").append((char) x.rule(rule, 0)).append(x.rule(rule, 2)).append(' ').append(x.free(rule));
-            for (int i = 0; i < x.first(rule, -1); i++) {
+            int firsts = x.first(rule, -1);
+            for (int i = 0; i < firsts; i++) {
                 b.append(' ').append((char) x.first(rule, i));
             }
-            for (int alt = 0; alt < x.rule(rule, 1); alt++) {
+            int alts = x.rule(rule, 1);
+            for (int alt = 0; alt < alts; alt++) {
                 b.append(" /");
-                for (int k = 0; k < x.item(rule, alt, -1, 0); k++) {
+                int items = x.item(rule, alt, -1, 0);
+                for (int k = 0; k < items; k++) {
                     b.append(' ').append(x.item(rule, alt, k, 2)).append(x.item(rule, alt, k, 1));
                     b.append((char) x.item(rule, alt, k, 0));
                 }
@@ -65,25 +73,28 @@ final class Shown {
             b.append(' ').append(x.blame(what)).append(' ').append(x.hint(what)).append(' ').append(x.repair(what));
             b.append(' ').append(x.alike(what));
         }
-        for (int m = 0; m <= x.count(1); m++) {
+        int tokens = x.count(1);
+        for (int m = 0; m <= tokens; m++) {
             b.append(' ').append(x.goesOn(m)).append(x.room(m)).append(' ').append(x.where(0, 0, m));
         }
         b.append('\n');
     }
 
     private static void tree(StringBuilder b, ColumnGrammar x) {
-        b.append("tree ").append(x.nodes());
+        int nodes = x.nodes();
+        int tokens = x.count(1);
+        b.append("tree ").append(nodes);
         for (int what = 0; what < 3; what++) {
             b.append(' ').append(x.tree(what));
         }
-        for (int k = 0; k < x.nodes(); k++) {
+        for (int k = 0; k < nodes; k++) {
             b.append(" /");
             for (int what = 0; what < 7; what++) {
                 b.append(' ').append(x.node(k, what));
             }
             b.append(' ').append(x.ways(k)).append(' ').append(x.extent(k, 4));
         }
-        for (int token = 0; token < x.count(1); token++) {
+        for (int token = 0; token < tokens; token++) {
             b.append(' ').append(x.off(token)).append(x.about(token, 3));
         }
         b.append('\n');
