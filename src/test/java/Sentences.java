@@ -176,9 +176,10 @@ final class Sentences {
         return x;
     }
 
-    void finish(int firstPromise, int lastPromise) {
+    /** Ends with 1 if an answer was not as due, or a promise from the first to the last has no test, but for the one left out. */
+    void finish(int firstPromise, int lastPromise, int leftOut) {
         for (int p = firstPromise; p <= lastPromise; p++) {
-            if (!tests.containsKey(p)) {
+            if (p != leftOut && !tests.containsKey(p)) {
                 wrong++;
                 System.out.println("promise " + p + " has no test");
             }
@@ -188,5 +189,9 @@ final class Sentences {
         if (wrong != 0 || right == 0) {
             System.exit(1);
         }
+    }
+
+    void finish(int firstPromise, int lastPromise) {
+        finish(firstPromise, lastPromise, NONE);
     }
 }
