@@ -77,6 +77,11 @@ public final class FitBoundariesTest {
         S.due("where(0, 20, 20)", x.where(0, 20, 20), 0);
         S.due("where(1, 20, 20)", x.where(1, 20, 20), ALL);
         S.due("no TOKENS", Sentences.withoutTokens().where(0, 0, 0), ALL);
+        x = Due.made("A:='x;B:=A;C:=B;D:=C;E:=D;F:=E;G:=F;H:=G", "  x");
+        S.due("by all the RULES ahead", x.where(7, 0, 1), 4);
+        x = Due.made("A:=B;B:=C;C:=D;D:=E;E:=F;F:=G;G:=H;H:='x", "  x");
+        S.due("by all the RULES behind", x.where(0, 0, 1), 4);
+        S.due("of four ALTS, not that of the next RULE", Due.made("A:'a/'b/'c/'d;B:'x", "x").where(0, 0, 1), 0);
     }
 
     private static void p12NoSuch() {
@@ -238,6 +243,9 @@ public final class FitBoundariesTest {
         S.due("behind 20", Due.made(XS, Sentences.FULL).next(20, 'x'), ALL);
         S.due("behind none", Sentences.withoutTokens().next(0, 'x'), ALL);
         S.due("behind what does not go on", Due.made("A:'x'y", "qx").next(1, 'y'), 0);
+        S.due("a NAME at COLUMN 0 alone", Due.made("A:='x=B;B:='y", "x").next(1, 'y'), 1);
+        S.due("a NAME at COLUMN 39 alone", Due.made("A:='x=B;B:='y", Sentences.blanks(39) + "x").next(1, 'y'), 1L << 39);
+        S.due("of four ALTS, not that of the next RULE", Due.made("A:'a/'b/'c/'d;B:'x", "").next(0, 'x'), 0);
     }
 
     private static void p17TokensBehindLeftAside() {
@@ -277,6 +285,7 @@ public final class FitBoundariesTest {
         S.due("deeper than 39", Due.made("A:='x>'y", Sentences.blanks(39) + "x").room(1), 0);
         S.due("behind 20", Due.made(XS, Sentences.FULL).room(20), 40);
         S.due("none can come", Due.made("A:", "").room(0), 0);
+        S.due("a NAME at COLUMN 0 alone", Due.made("A:='x=B;B:='y", "x").room(1), 1);
         S.due("no FREE COLUMN", Due.made("A:'xA", "").room(0), 0);
     }
 

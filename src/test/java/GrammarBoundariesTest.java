@@ -16,6 +16,7 @@ public final class GrammarBoundariesTest {
         p03FirstSignsAlone();
         p03NotSoMany();
         p04TextBecomesGrammar();
+        p04NothingOfTheOneBefore();
         p04Fault();
         p05NothingCanBeUndone();
         p05HowMany();
@@ -186,6 +187,26 @@ public final class GrammarBoundariesTest {
         S.due("all is as with a new object", Shown.all(x), Shown.all(same));
     }
 
+    private static void p04NothingOfTheOneBefore() {
+        S.of(4, "THE TEXT becomes the GRAMMAR");
+        String[] grammars = {"A:'x", "A:'xA", "A:'x/'y", "A:'x'y", "A:'x;B:'y/A", "A:B;B:'y", "A:'x/'y/'x'y/;B:A'y/'y", "A:>B;B:>'x/",
+            "A:", "A:'x/B;B:'y'y'x/'y", "A:'xB'y/;B:A>A='x", EIGHT};
+        for (String before : grammars) {
+            for (String grammar : grammars) {
+                ColumnGrammar x = Due.made(before, "xy");
+                x.room(1);
+                Due.grammar(x, "A:'x'y/B'x/'y;B:'x/?");
+                Due.grammar(x, grammar);
+                ColumnGrammar same = Due.made(grammar, "xy");
+                S.due("of " + before + " in " + grammar, Shown.asked(x), Shown.asked(same));
+                for (int seed = 0; seed < 6; seed++) {
+                    S.due("grow(" + seed + ")", x.grow(seed), same.grow(seed));
+                    S.tokens(x, Shown.tokens(same));
+                }
+            }
+        }
+    }
+
     private static void p04Fault() {
         S.of(4, "-1000 and less by p: a FAULT at p.");
         S.fault("?", 0);
@@ -343,6 +364,10 @@ public final class GrammarBoundariesTest {
         }
         S.due("first(1, 0)", x.first(1, 0), '!');
         S.due("first(1, 1)", x.first(1, 1), 'z');
+        // The first ALT of the next RULE is not a fifth one.
+        x = Due.made("A:'a/'b/'c/'d;B:'e", "e");
+        S.due("of four ALTS", x.first(0, NONE), 4);
+        S.due("the last of them", x.first(0, 3), 'd');
     }
 
     private static void p08Others() {

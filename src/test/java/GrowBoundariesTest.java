@@ -84,6 +84,12 @@ public final class GrowBoundariesTest {
         S.due("some stand at COLUMN 39", last > 0, true);
         for (int seed = 0; seed < 60; seed++) {
             Draws d = new Draws(seed);
+            int c = d.of(40);
+            // Of four; the first ALT of the next RULE is not a fifth one.
+            grown("A:='a/='b/='c/='d;B:='e", seed, "abcd".charAt(d.of(4)) + "0," + c);
+        }
+        for (int seed = 0; seed < 60; seed++) {
+            Draws d = new Draws(seed);
             d.of(40);
             // The first ALT never ends; the third is over no TOKENS.
             grown("A:B/='x/;B:'yB", seed, d.of(2) == 0 ? "x0," + new Draws(seed).of(40) : "");

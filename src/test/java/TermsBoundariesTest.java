@@ -225,6 +225,8 @@ public final class TermsBoundariesTest {
         S.fault("A:////", 5);
         S.fault("A:///;B:////", 11);
         S.reads("A:///;B:///", 2);
+        S.fault("A:;B:;C:;D:;E:;F:;G:;H:////", 26);
+        S.reads("A:;B:;C:;D:;E:;F:;G:;H:///", 8);
     }
 
     private static void faultSixthItem() {
@@ -238,6 +240,8 @@ public final class TermsBoundariesTest {
         S.fault("A:'a'b'c'd'e*", 12);
         S.fault("A:'a/;B:'a'b'c'd'e/'a'b'c'd'e'f", 29);
         S.reads("A:'a'b'c'd'e/'a'b'c'd'e;B:'a'b'c'd'e", 2);
+        S.fault("A:;B:;C:;D:;E:;F:;G:;H:///'a'b'c'd'e'f", 36);
+        S.reads("A:;B:;C:;D:;E:;F:;G:;H:///'a'b'c'd'e", 8);
     }
 
     private static void faultTooEarly() {
@@ -281,6 +285,11 @@ public final class TermsBoundariesTest {
         S.fault("A:H;H:G;G:F;F:E;E:D;D:C;C:B;B:A", 0);
         S.reads("A:B;B:C;C:D;D:E;E:F;F:G;G:H;H:'x", 8);
         S.reads("A:H'x;H:G;G:F;F:E;E:D;D:C;C:B;B:A", 8);
+        S.fault("A:H;B:A;C:B;D:C;E:D;F:E;G:F;H:G", 0);
+        S.fault("A:'x;B:H;C:B;D:C;E:D;F:E;G:F;H:G", 5);
+        S.reads("A:'x;B:A;C:B;D:C;E:D;F:E;G:F;H:G", 8);
+        // The first ALT of the next RULE is not a fifth one.
+        S.reads("A:'a/'b/'c/'d;B:A", 2);
     }
 
     private static void faultRoundBesideEmptyItems() {

@@ -27,6 +27,8 @@ public final class TermsFitBoundariesTest {
         printedLines();
         theLineStays();
         workedOutWhenAsked();
+        eachWorkedOutWhenAsked();
+        smallerTreeBehindAGreaterOne();
         refusedCallsOfTexts();
         refusedNumbersAheadOfTheRest();
         S.finish(TERMS, TERMS);
@@ -303,6 +305,57 @@ public final class TermsFitBoundariesTest {
         x.undo();
         S.due("fits again", x.fits(), 1);
         S.due("blame", x.blame(0), NONE);
+    }
+
+    /** What was asked ahead of a change must not be what the first call behind it goes by, whichever call that is. */
+    private static void eachWorkedOutWhenAsked() {
+        S.of(TERMS, "are worked out as things are when they are asked.");
+        Sentences.Call[] asking = {x -> x.fits(), x -> x.where(0, 0, 3), x -> x.where(1, 0, 2), x -> x.blame(0), x -> x.blame(1),
+            x -> x.goesOn(3), x -> x.goesOn(2), x -> x.hint(0), x -> x.hint(1), x -> x.next(2, 'x'), x -> x.next(3, 'x'),
+            x -> x.next(1, '{'), x -> x.room(1), x -> x.room(2), x -> x.room(3), x -> x.nodes(), x -> x.node(1, 4), x -> x.ways(0),
+            x -> x.extent(0, 3), x -> x.off(0), x -> x.about(0, 0), x -> x.tree(0), x -> x.tree(1), x -> x.repair(0), x -> x.repair(1),
+            x -> x.alike(0), x -> x.first(0, NONE), x -> x.free(0)};
+        String[] texts = {"x{\n x", "x{\nx", "x\nx{", "xxx", "x\n x", " x\n x\n x", ""};
+        String[] grammars = {Sentences.BLOCKS, "B:=L/=L>B;L:='x/='x'{", "B:='x", "B:*L*L*L;L:'x/'{", "B:>L>B/;L:'x'{"};
+        for (int call = 0; call < asking.length; call++) {
+            for (int k = 0; k < texts.length * grammars.length; k++) {
+                String text = texts[k % texts.length];
+                String grammar = grammars[k / texts.length];
+                ColumnGrammar x = Due.made("B:L/L>B;L:'x/'x'{", "x{\n  x\n   x");
+                x.keep(0);
+                askOfEach(x);
+                Due.text(x, text);
+                askOfEach(x);
+                Due.grammar(x, grammar);
+                ColumnGrammar same = Due.made("B:L/L>B;L:'x/'x'{", "x{\n  x\n   x");
+                same.keep(0);
+                Due.text(same, text);
+                Due.grammar(same, grammar);
+                same.fits();
+                S.due("call " + call + " for " + grammar + " and " + text, asking[call].on(x), asking[call].on(same));
+                askOfEach(x);
+                x.put(0, 9, 'x');
+                same.put(0, 9, 'x');
+                same.fits();
+                S.due("call " + call + " behind put()", asking[call].on(x), asking[call].on(same));
+            }
+        }
+    }
+
+    private static void smallerTreeBehindAGreaterOne() {
+        S.of(TERMS, "THE TREE, BLAME and the like are worked out as things are");
+        ColumnGrammar x = Due.made("S:*A;A:*B;B:*'x", "x");
+        S.due("off(0)", x.off(0), 2);
+        S.due("tree(0)", x.tree(0), 3);
+        Due.grammar(x, "S:*'x");
+        S.due("off(0)", x.off(0), 0);
+        S.due("tree(0)", x.tree(0), 1);
+        S.due("tree(1)", x.tree(1), 0);
+        S.due("tree(2)", x.tree(2), 0);
+        for (int what = 0; what < 4; what++) {
+            S.due("about(0, " + what + ")", x.about(0, what), what < 3 ? 1 : 0);
+        }
+        S.due("node(1, 0)", x.node(1, 0), NONE);
     }
 
     private static void askOfEach(ColumnGrammar x) {
