@@ -79,6 +79,9 @@ public final class FitBoundariesTest {
         S.due("no TOKENS", Sentences.withoutTokens().where(0, 0, 0), ALL);
         x = Due.made("A:='x;B:=A;C:=B;D:=C;E:=D;F:=E;G:=F;H:=G", "  x");
         S.due("by all the RULES ahead", x.where(7, 0, 1), 4);
+        x = Due.made("A:'x;B:A;C:B;D:C;E:D;F:E;G:F;H:H'y/G", "xyy");
+        S.due("by all the RULES ahead and itself", x.where(7, 0, 2), 1);
+        S.due("by all the RULES ahead and itself twice", x.where(7, 0, 3), 1);
         x = Due.made("A:=B;B:=C;C:=D;D:=E;E:=F;F:=G;G:=H;H:='x", "  x");
         S.due("by all the RULES behind", x.where(0, 0, 1), 4);
         S.due("of four ALTS, not that of the next RULE", Due.made("A:'a/'b/'c/'d;B:'x", "x").where(0, 0, 1), 0);
@@ -244,6 +247,7 @@ public final class FitBoundariesTest {
         S.due("behind none", Sentences.withoutTokens().next(0, 'x'), ALL);
         S.due("behind what does not go on", Due.made("A:'x'y", "qx").next(1, 'y'), 0);
         S.due("a NAME at COLUMN 0 alone", Due.made("A:='x=B;B:='y", "x").next(1, 'y'), 1);
+        S.due("a NAME of a NAME at COLUMN 0 alone", Due.made("A:='x=C;B:='y;C:=B", "x").next(1, 'y'), 1);
         S.due("a NAME at COLUMN 39 alone", Due.made("A:='x=B;B:='y", Sentences.blanks(39) + "x").next(1, 'y'), 1L << 39);
         S.due("of four ALTS, not that of the next RULE", Due.made("A:'a/'b/'c/'d;B:'x", "").next(0, 'x'), 0);
     }

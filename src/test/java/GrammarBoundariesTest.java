@@ -190,7 +190,7 @@ public final class GrammarBoundariesTest {
     private static void p04NothingOfTheOneBefore() {
         S.of(4, "THE TEXT becomes the GRAMMAR");
         String[] grammars = {"A:'x", "A:'xA", "A:'x/'y", "A:'x'y", "A:'x;B:'y/A", "A:B;B:'y", "A:'x/'y/'x'y/;B:A'y/'y", "A:>B;B:>'x/",
-            "A:", "A:'x/B;B:'y'y'x/'y", "A:'xB'y/;B:A>A='x", EIGHT};
+            "A:", "A:AA/'x", "A:BB/'y;B:BB/'x", "A:B;B:", "A:'x/B;B:'y'y'x/'y", "A:'xB'y/;B:A>A='x", EIGHT};
         for (String before : grammars) {
             for (String grammar : grammars) {
                 ColumnGrammar x = Due.made(before, "xy");
